@@ -886,8 +886,8 @@ public final class TeaCourt {
         }
 
         private int placeOf(int lot) {
-            for (int i = 0; i < named; i++) {
-                if (at(names, i) == lot) {
+            for (int i = 0; i < named && i < names.length; i++) {
+                if (names[i] == lot) {
                     return i;
                 }
             }
@@ -1182,11 +1182,11 @@ public final class TeaCourt {
         }
 
         private int figureAt(int i) {
-            return i < used ? at(figures, i) : 0;
+            return i >= 0 && i < used && i < figures.length ? figures[i] : 0;
         }
 
         private void trim() {
-            for (int i = used - 1; i >= 0 && at(figures, i) == 0; i--) {
+            for (int i = used - 1; i >= 0 && i < figures.length && figures[i] == 0; i--) {
                 used = i;
             }
         }

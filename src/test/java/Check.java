@@ -36,7 +36,8 @@ final class Check {
     /** The text of the page. */
     static String page(TeaCourt court) {
         StringBuilder text = new StringBuilder();
-        for (int k = 0; k < court.count(4); k++) {
+        int length = court.count(4);
+        for (int k = 0; k < length; k++) {
             text.append((char) court.octet(k));
         }
         return text.toString();
