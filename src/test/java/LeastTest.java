@@ -178,6 +178,53 @@ public final class LeastTest {
         found(0, 20, 4, "25", "1/2", "0", "1/2", "0");
     }
 
+    /** LEAST alone is asked, ahead of any other call that would read the cups. */
+    private static void theLatestCupIsKnown() {
+        court = new TeaCourt();
+        court.lot(0, 9, 0);
+        lot(0, 10, 1000);
+        lot(0, 20, 1000);
+        court.wish(2, 10, 9999);
+        notFound(0, 10);
+        court.sit(0);
+        court.pour(0, -1, 0);
+        court.pour(2, 3, CupsTest.row(0, 0, 4, 0));
+        found(0, 10, 2, "25/2", "3/4", "1/4");
+        court.pour(1, 3, CupsTest.row(0, 0, -2, 0));
+        found(0, 10, 2, "10", "1", "0");
+        court.wish(2, 35, 35);
+        found(0, 10, 2, "35/2", "1/4", "3/4");
+        court.undo();
+        court.undo();
+        found(0, 10, 2, "25/2", "3/4", "1/4");
+    }
+
+    /** Costs between two whole numbers, at two ends of what the limits leave: the less one is found. */
+    private static void costsNextToEachOther() {
+        for (int wanted = 2; wanted < 40; wanted++) {
+            for (int first = 1; first < wanted && first < 8; first++) {
+                for (int dearer = 0; dearer < 2; dearer++) {
+                    court = new TeaCourt();
+                    lot(0, 5 + dearer, first);
+                    lot(2, 6 - dearer, wanted - 1);
+                    // The first's share: from 1 / wanted to first / wanted, and (MARK 1) from 3 / 10 to 1.
+                    court.wish(1, 0, 7);
+                    boolean there = 10 * first >= 3 * wanted;
+                    if (!there) {
+                        notFound(0, wanted);
+                    } else if (dearer == 0) {
+                        Ratio most = Ratio.of(first, wanted);
+                        found(0, wanted, 2, Ratio.of(6).minus(most) + "", most + "", Ratio.ONE.minus(most) + "");
+                    } else {
+                        Ratio cap = Ratio.of(1, wanted);
+                        Ratio less = cap.compareTo(Ratio.of(3, 10)) < 0 ? Ratio.of(3, 10) : cap;
+                        found(0, wanted, 2, Ratio.of(5).plus(less) + "", less + "", Ratio.ONE.minus(less) + "");
+                    }
+                }
+            }
+        }
+    }
+
     private static void theLatestSharesStay() {
         court = new TeaCourt();
         lot(0, 10, 10);
@@ -237,6 +284,8 @@ public final class LeastTest {
         tenthsAreRounded();
         whoTakesPart();
         theyStandInTheOrderOfTheBins();
+        theLatestCupIsKnown();
+        costsNextToEachOther();
         theLatestSharesStay();
         wrongOnesAreRefused();
         Check.end();

@@ -166,6 +166,31 @@ public final class ScaleTest {
         notMiddled(0, 1);
     }
 
+    /** Whichever call comes first behind a cup, it knows of the cup. */
+    private static void allKnowTheLatestCup() {
+        for (int call = 0; call < 6; call++) {
+            begin(2);
+            for (int i = 1; i < 4; i++) {
+                step(5, 0, 1, 1, CupsTest.row(i * i, 0, 0, 0));
+                // 1; 1 and 4; 1, 4 and 9.
+                String middle = i == 1 ? "1" : i == 2 ? "5/2" : "14/3";
+                if (call == 0) {
+                    agreed(5, i == 1 ? "0" : i == 2 ? "9/2" : "98/3");
+                } else if (call == 1) {
+                    scaled(5, 0, 1, middle);
+                } else if (call == 2) {
+                    middled(1, 0, middle);
+                } else if (call == 3) {
+                    Check.printed("taste", court, middle, court.taste(1, 0, 0));
+                } else if (call == 4) {
+                    Check.due("trust", i == 1 ? 1 : i == 2 ? 12 : 1, court.taster(5, 0));
+                } else {
+                    Check.due("hangs", 0, court.hangs(5, 0, 1));
+                }
+            }
+        }
+    }
+
     private static void wrongOnesAreRefused() {
         begin(1);
         for (int taster : new int[] {-1, 8, Integer.MAX_VALUE}) {
@@ -192,6 +217,7 @@ public final class ScaleTest {
         severalThatHangTogether();
         allTellAlike();
         theMiddleIsWeighedByTrust();
+        allKnowTheLatestCup();
         wrongOnesAreRefused();
         Check.end();
     }

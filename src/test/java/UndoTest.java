@@ -159,8 +159,15 @@ public final class UndoTest {
         Check.due("lots", 2, court.count(0));
         Check.due("parts of others stay", 2, court.count(3));
         court.lot(3, 50, 0);
+        // What takes a blend's place is no blend.
+        Check.due("no parts", 0, court.about(2, 4));
+        Check.due("no depth", 0, court.about(2, 5));
+        Check.due("no kilos", -1, court.about(2, 3));
+        Check.printed("taste", court, "3", court.taste(2, 3, 0));
+        Check.due("stale", -1, court.stale(2, 0));
         court.part(2, 2);
         Check.due("a blend of what stayed", 3, court.blend(8));
+        Check.due("its depth", 1, court.about(3, 5));
         Check.due("its price, of 6, 8 and 2", (6 + 8 + 2 * 50) / 16, court.about(3, 1));
         Check.due("its parts", 3, court.about(3, 4));
         undone(5);
@@ -171,11 +178,6 @@ public final class UndoTest {
         undone(0);
         Check.due("parts", 0, court.count(3));
         Check.due("part() is no act", 1, court.count(5));
-        // What takes a blend's place is no blend.
-        court.lot(0, 3, 3);
-        Check.due("no parts", 0, court.about(1, 4));
-        Check.due("no depth", 0, court.about(1, 5));
-        Check.printed("taste", court, "0", court.taste(1, 3, 0));
     }
 
     private static void twelveAreKept() {
