@@ -1,18 +1,46 @@
+import java.io.IOException;
+import java.io.UncheckedIOException;
+import java.nio.file.Files;
+import java.nio.file.Path;
 import java.util.function.IntSupplier;
 
 /** What all tests of the project use: answers are compared, and a test ends with 1 if one was wrong. */
 final class Check {
     private static int checks = 0;
     private static int wrong = 0;
+    private static String sentence = "";
+    private static String document = null;
 
     private Check() {
+    }
+
+    /** From here on these words of the document are tested: they stand ahead of each wrong answer. */
+    static void sentence(String words) {
+        sentence = "";
+        if (!document().isEmpty()) {
+            same("\"" + words + "\" stands in the document", true, document().contains(words));
+        }
+        sentence = "\"" + words + "\": ";
+    }
+
+    /** The document in one line; empty where it does not lie beside the project. */
+    private static String document() {
+        if (document == null) {
+            Path path = Path.of("../shared/DOC.md");
+            try {
+                document = Files.exists(path) ? Files.readString(path).replaceAll("\\s+", " ") : "";
+            } catch (IOException e) {
+                throw new UncheckedIOException(e);
+            }
+        }
+        return document;
     }
 
     static void same(String what, Object due, Object got) {
         checks++;
         if (!due.equals(got)) {
             wrong++;
-            System.out.println(what + " answered " + got + ", due is " + due);
+            System.out.println(sentence + what + " answered " + got + ", due is " + due);
         }
     }
 
