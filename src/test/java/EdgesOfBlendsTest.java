@@ -306,7 +306,7 @@ public final class EdgesOfBlendsTest {
         Check.due("least(0, 10)", 1, court.least(0, 10));
         court.lot(0, 0, 0);
         court.taste(1, 0, 0);
-        Check.due("a cost of 0 in the bins' stead", -1, court.least(0, 11));
+        Check.due("least(0, 11) behind a taste", -1, court.least(0, 11));
         Check.same("the page", "0", Check.page(court));
     }
 
