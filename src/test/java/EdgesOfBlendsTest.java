@@ -112,6 +112,23 @@ public final class EdgesOfBlendsTest {
         }
     }
 
+    private static void twoDeepInABin() {
+        Check.sentence("A BLEND lies at most 2 deep");
+        court = new TeaCourt();
+        court.lot(2, 5, 0);
+        deep(1, 0);
+        deep(2, 1);
+        // All taste of 1 for MARK 1, so of 10 TENTHS.
+        for (int lot = 0; lot < 3; lot++) {
+            court.weigh(lot, Still.bits(1));
+            court.put(0, 1, lot);
+            court.wish(1, 10, 10);
+            found(0, 10, "5", "1");
+            court.wish(1, -9999, 9);
+            notFound(0, 10);
+        }
+    }
+
     private static void noPartsOrTooDeep() {
         Check.sentence("IllegalStateException: there are no PARTS, or it would lie 3 deep;");
         Still.refused("3 deep", IllegalStateException.class, EdgesOfBlendsTest::threeDeep, c -> c.blend(0));
@@ -582,6 +599,7 @@ public final class EdgesOfBlendsTest {
         partsOfOneToAThousand();
         noLotAsAPart();
         atMostTwoDeep();
+        twoDeepInABin();
         noPartsOrTooDeep();
         daysOfABlend();
         noneAtForty();

@@ -278,9 +278,64 @@ public final class EdgesOfUndoTest {
         }
         Check.due("a blend as lot 2", 2, court.blend(0));
         undone("the blend", 5);
-        Check.due("a leaf as lot 2", 2, court.lot(0, 3, 50));
+        Check.due("a leaf as lot 2", 2, court.lot(4, 3, 50));
+        for (int what = 0; what < 6; what++) {
+            Check.due("about(2, " + what + ") where a blend was", due[what], court.about(2, what));
+        }
+        Check.printed("its taste where a blend was", court, "1/4", court.taste(2, 2, 80));
         court.sit(0);
         Check.due("it may be poured, as it is no blend", 0, court.pour(2, 0, 0));
+    }
+
+    private static void theWishAhead() {
+        Check.sentence("lot(), weigh(), put(), pour(), sit(), blend(), wish() (what they made is no more).");
+        court = new TeaCourt();
+        court.lot(2, 5, 0);
+        court.weigh(0, Still.bits(1));
+        court.put(0, 1, 0);
+        // Its TENTHS for MARK 1 are 10: each wish but the last is undone to one that tells otherwise.
+        int[][] wishes = {{10, 10}, {11, 20}, {1, 0}, {0, 9}, {-5, 15}, {11, 11}, {10, 11}};
+        boolean[] kept = {true, false, true, false, true, false, true};
+        for (int i = 0; i < wishes.length; i++) {
+            court.wish(1, wishes[i][0], wishes[i][1]);
+        }
+        for (int i = wishes.length - 1; i >= 0; i--) {
+            Check.due("least with wish " + i, kept[i] ? 1 : -1, court.least(0, 10));
+            undone("wish " + i, 6);
+        }
+        Check.due("least with no wish", 1, court.least(0, 10));
+        // An undone wish leaves neither of its ends: none, and then from -9999 to 9.
+        court.wish(1, -9999, 9);
+        court.wish(1, -9999, 9999);
+        undone("the greatest end", 6);
+        Check.due("least, at most 9", -1, court.least(0, 10));
+        court.wish(1, 11, 9999);
+        court.wish(1, -9999, 9999);
+        undone("the least end", 6);
+        Check.due("least, at least 11", -1, court.least(0, 10));
+    }
+
+    private static void aLotWhereADeepBlendWas() {
+        Check.sentence("lot(), weigh(), put(), pour(), sit(), blend(), wish() (what they made is no more).");
+        court = new TeaCourt();
+        court.lot(2, 1, 0);
+        court.part(0, 1000);
+        court.blend(0);
+        court.part(0, 1000);
+        court.part(1, 7);
+        Check.due("a deep blend", 2, court.blend(0));
+        Check.due("how deep it lies", 2, court.about(2, 5));
+        undone("the deep blend", 5);
+        court.part(0, 3);
+        Check.due("a blend of one part in its place", 2, court.blend(0));
+        Check.due("its parts", 1, court.about(2, 4));
+        Check.due("how deep it lies", 1, court.about(2, 5));
+        Check.printed("its taste", court, "1", court.taste(2, 1, 0));
+        undone("that blend", 5);
+        Check.due("an aged one in its place", 2, court.lot(4, 9, 0));
+        Check.due("its parts", 0, court.about(2, 4));
+        Check.due("how deep it lies", 0, court.about(2, 5));
+        Check.printed("its taste", court, "1/4", court.taste(2, 2, 30));
     }
 
     private static void octets() {
@@ -422,6 +477,8 @@ public final class EdgesOfUndoTest {
         aLotThatIsTakenAway();
         theSittingAhead();
         whatTheyMadeIsNoMore();
+        theWishAhead();
+        aLotWhereADeepBlendWas();
         octets();
         fractions();
         fiveHundredAndTwelveActs();
